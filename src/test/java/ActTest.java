@@ -361,6 +361,12 @@ public final class ActTest {
         Due.due("time", x.count(6), 9998);
         Due.due("enter", x.enter(0) >= 0, true);
         Due.due("back", x.back(), 9999);
+        UndoTrade y = Due.shop("a");
+        for (int i = 1; i < 500; i++) {
+            y.years(20, i);
+        }
+        Due.due("one year too many", y.years(20, 1), -1);
+        Due.due("up to the last time", y.years(19, 1), 9999);
     }
 
     private static void makings() {

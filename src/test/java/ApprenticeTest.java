@@ -113,6 +113,8 @@ public final class ApprenticeTest {
         Due.due("ask(-1)", x.ask(-1), -1);
         Due.law(x, "y:x>2?9;y:3");
         Due.due("seven and three", x.ask(2), 4);
+        Due.law(x, "y:x>4?99;y:98");
+        Due.due("the highest", x.ask(2), 99);
     }
 
     private static void images() {

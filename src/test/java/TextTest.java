@@ -6,7 +6,6 @@ public final class TextTest {
         workshopFaults();
         lawFaults();
         makingFaults();
-        faultsAreWhereTextsStop();
         texts();
         steps();
         Due.close();
@@ -46,6 +45,14 @@ public final class TextTest {
         Due.due("count(4)", x.count(4), 230);
         Due.due("feed up to the bound", x.feed(-1, -1, 0x0100ff00, 0, 0), 240);
         Due.due("fault of 255", x.fault(0), 0);
+        for (int word = 0; word < 5; word++) {
+            int[] w = new int[5];
+            w[word] = 0x0a0b0c0d;
+            x.end(237);
+            Due.due("one too many in word " + word, x.feed(w[0], w[1], w[2], w[3], w[4]), -1);
+            x.end(236);
+            Due.due("as many as can be in word " + word, x.feed(w[0], w[1], w[2], w[3], w[4]), 240);
+        }
     }
 
     private static void faults(int sort, Object... cases) {
@@ -70,14 +77,15 @@ public final class TextTest {
                 "sm0;a", 2, "sm00;a", 3, "sm01;a", -1, "sm12;a", -1, "sm13;a", 3, "sm99;a", 3, "sm120;a", 4,
                 "sm999;a", 4, "sm1 2;a", 4, "sm1m2;a", 3, "sk1;a", 1, "sm;a", 2, "s1;a", 1,
                 "ak31", -1, "ak32", 3, "ak031", 4, "ak0r0", -1, "ar1k9", -1, "ar2", 2, "ar20", 3, "ar01", -1,
-                "ak1k2", 3, "ar1r1", 3, "ak1r1k1", 5, "am1", 1, "ak", 2, "akr", 2, "a k 1 2", 6,
+                "a;ak", 4, "a;ar", 4, "a;sm", 4, "ak1k2", 3, "ar1r1", 3, "ak1r1k1", 5, "am1", 1, "ak", 2, "akr", 2, "a k 1 2", 6,
                 "s;s;a", 2, "a;s;s", 4, "a;a;a;a", -1, "a;a;a;a;a", 8, "a;a;s;a;a", -1, "a;a;a;a;s;a", 10,
                 "a;a;a;a;s;", 10, "a;a;a;a;sm2", -1, "a,a", 1, "A", 0, "\ta", 0, "a" + (char) 200, 1);
     }
 
     private static void lawFaults() {
         faults(1, "", 0, "y", 1, "y:", 2, "y:1", -1, "y:1;", 4, "y:1;y:2", -1, "y:1;z:2", 4, "y1", 1, "1", 0,
-                "y:1234", -1, "y:12345", 6, "y:0000", -1, "y:00000", 6, "y:1 2", 4, "y:1+", 4, "y:1+-1", 4, "y:-1", 2,
+                "y:1234", -1, "y:12345", 6, "y:0000", -1, "y:00000", 6, "y:1 2", 4, "y:1+", 4, "y:1+-1", 4, "y:-1", 2, "y:2*", 4, "y:2/;y:1", 4,
+                "y:w=?1", 4, "y:w=1?[[[[[[1]]]]]]", -1,
                 "y:w+i*x-n/b+t", -1, "y:a", 2, "y:[1]", -1, "y:[1", 4, "y:[1)", 4, "y:1]", 3, "y:[]", 3,
                 "y:w=1", 5, "y:w=1?", 6, "y:w=1?2", -1, "y:w?2", 3, "y:w&1=1?2", 3, "y:w=1;", 5, "y:w=1=1?2", 5,
                 "y:w=1&2?3", 7, "y:w=1&i=2|x=3?4", -1, "y:w=1|?4", 6, "y:w<1?2=3", 7, "y:w=1?2?3", 7,
@@ -102,35 +110,6 @@ public final class TextTest {
                 sixteen.toString(), -1, sixteen + " ", -1, sixteen + ";", 47, sixteen + ";t0", 47, sixteen + " ;t0", 48,
                 sixteen + "x", 47, sixteen + "1", 47);
     }
-
-    /** Of laws and makings: what stands ahead of a fault can go on, and with the byte at it can not. */
-    private static void faultsAreWhereTextsStop() {
-        java.util.Random random = new java.util.Random(5);
-        String[] alphabets = {"sa;mkr0123 ", "y:y:;?|&!()=<>+-*/[]12wixnbt ", "ptcjh0123456789;; "};
-        for (int i = 0; i < 60000; i++) {
-            int sort = 1 + i % 2;
-            StringBuilder text = new StringBuilder(sort == 1 ? "y:" : "");
-            for (int n = random.nextInt(14); n > 0; n--) {
-                text.append(alphabets[sort].charAt(random.nextInt(alphabets[sort].length())));
-            }
-            UndoTrade x = i % 2000 < 2 ? new UndoTrade() : shared[sort];
-            shared[sort] = x;
-            int length = Due.tape(x, text.toString());
-            int fault = x.fault(sort);
-            if (fault == -1) {
-                continue;
-            }
-            if (fault < length) {
-                x.end(fault + 1);
-                Due.due("fault in '" + text + "', cut behind it", x.fault(sort), fault);
-            }
-            x.end(fault);
-            int ahead = x.fault(sort);
-            Due.due("what is ahead of the fault in '" + text + "'", ahead == -1 || ahead == fault, true);
-        }
-    }
-
-    private static final UndoTrade[] shared = new UndoTrade[3];
 
     private static void texts() {
         UndoTrade x = new UndoTrade();
@@ -162,8 +141,11 @@ public final class TextTest {
         Due.due("a fifth law", Due.tell(x, 1, "y:2"), -1);
         Due.due("its tape stays", x.count(4), 3);
         Due.due("a fifth making", Due.tell(x, 2, "p11"), -1);
-        Due.due("text(3)", x.text(3), -1);
-        Due.due("text(-1)", x.text(-1), -1);
+        UndoTrade y = new UndoTrade();
+        Due.tape(y, "p00");
+        Due.due("text(3)", y.text(3), -1);
+        Due.due("text(-1)", y.text(-1), -1);
+        Due.due("text(2)", y.text(2), 0);
         anotherWorkshop(x);
     }
 
