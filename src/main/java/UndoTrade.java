@@ -218,10 +218,10 @@ public final class UndoTrade {
     }
 
     public int takes(int apprentice, int deed) {
-        if (!now.hasApprentice(apprentice) || !now.piece.has(deed)) {
+        if (!now.piece.has(deed) || !now.knows(apprentice, now.piece.sorts[deed])) {
             return NONE;
         }
-        return now.knows(apprentice, now.piece.sorts[deed]) ? undoes(deed) : NONE;
+        return undoes(deed);
     }
 
     public int enter(int apprentice) {
@@ -234,7 +234,7 @@ public final class UndoTrade {
     }
 
     public int forgets(int apprentice, int sort) {
-        if (!canAct() || !now.hasApprentice(apprentice) || !isSort(sort) || !now.knows(apprentice, sort)) {
+        if (!canAct() || !isSort(sort) || !now.knows(apprentice, sort)) {
             return NONE;
         }
         beginAct();
@@ -742,6 +742,9 @@ public final class UndoTrade {
         }
 
         void drop(int deed) {
+            if (!has(deed)) {
+                return;
+            }
             for (int d = deed; d + 1 < size; d++) {
                 sorts[d] = sorts[d + 1];
                 parts[d] = parts[d + 1];
@@ -1108,7 +1111,7 @@ public final class UndoTrade {
         }
 
         boolean knows(int apprentice, int sort) {
-            return (known[apprentice] >> sort & 1) != 0;
+            return hasApprentice(apprentice) && (known[apprentice] >> sort & 1) != 0;
         }
 
         int knownTogether(int some) {
@@ -1135,6 +1138,9 @@ public final class UndoTrade {
         }
 
         void takeBack(int deed) {
+            if (!piece.has(deed)) {
+                return;
+            }
             int sort = piece.sorts[deed];
             piece.drop(deed);
             for (int a = 0; a < apprentices; a++) {
