@@ -16,6 +16,13 @@ final class Due {
         due(call, got ? 1 : 0, want ? 1 : 0);
     }
 
+    static void due(String call, String got, String want) {
+        if (!got.equals(want)) {
+            wrong++;
+            System.out.println(call + ": " + got + ", due is " + want);
+        }
+    }
+
     /** Call at the end of a main method. */
     static void close() {
         if (wrong != 0) {
