@@ -15,7 +15,6 @@ public final class ActTest {
         undoing();
         logging();
         years();
-        lastTime();
         makings();
         alike();
         Due.close();
@@ -332,41 +331,6 @@ public final class ActTest {
     private static int draw(int j) {
         state = state * 6364136223846793005L + 1442695040888963407L;
         return (int) ((state >>> 33) % j);
-    }
-
-    private static void lastTime() {
-        UndoTrade x = Due.shop("ak1");
-        int making = Due.tell(x, 2, "p00;p10;p20");
-        x.haste(9);
-        for (int i = 1; i < 500; i++) {
-            Due.due("years", x.years(20, i), 20 * i);
-        }
-        Due.due("not begun", x.years(20, 1), -1);
-        Due.due("years(17)", x.years(17, 1), 9997);
-        x.sell();
-        x.perform(making);
-        Due.due("the last time", x.count(6), 9999);
-        int deeds = x.count(1);
-        Due.due("make", x.make(0, 5, 0) + x.make(0, 2, 0), -2);
-        Due.due("undoes", x.undoes(deeds - 1), -1);
-        Due.due("takes", x.takes(0, deeds - 1), -1);
-        Due.due("enter", x.enter(0), -1);
-        Due.due("forgets", x.forgets(0, 0), -1);
-        Due.due("sell", x.sell(), -1);
-        Due.due("years", x.years(1, 1), -1);
-        Due.due("perform", x.perform(making), 0);
-        Due.due("run does not mind", Due.tell(x, 2, "p55;t5") == 1 ? x.run(1, 0) : -9, -1);
-        Due.due("image", x.image(), 9999);
-        Due.due("undo", x.undo(), 39);
-        Due.due("time", x.count(6), 9998);
-        Due.due("enter", x.enter(0) >= 0, true);
-        Due.due("back", x.back(), 9999);
-        UndoTrade y = Due.shop("a");
-        for (int i = 1; i < 500; i++) {
-            y.years(20, i);
-        }
-        Due.due("one year too many", y.years(20, 1), -1);
-        Due.due("up to the last time", y.years(19, 1), 9999);
     }
 
     private static void makings() {

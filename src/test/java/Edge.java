@@ -147,6 +147,7 @@ final class Edge {
                 + table(17, 3, (i, what) -> x.step(3, i, what)));
         sides.put("what was seen", x -> table(2, 5, (what, sort) -> what == 0 ? x.args(sort) : x.ask(sort)));
         sides.put("laws", Edge::laws);
+        sides.put("rows and the game", Edge::rowsAndGame);
         sides.put("tape", Edge::tape);
         sides.put("tape as texts", x -> "" + x.text(0) + x.text(1) + x.text(2));
         sides.put("acts to be undone", Edge::undone);
@@ -206,6 +207,13 @@ final class Edge {
             text.append(x.law(law)).append(table(12, 2, (deed, n) -> x.cost(deed, n, 4 + n % 2)));
         }
         return text.toString();
+    }
+
+    private static String rowsAndGame(UndoTrade x) {
+        return x.game(0) + " " + x.game(1) + " " + x.rows() + " " + x.cheapest(-1) + " " + x.game(0) + " " + x.team()
+                + table(12, 3, (at, what) -> what == 0 ? x.row(1, at) : what == 1 ? x.drawn(8, at) : x.cheapest(at))
+                + table(12, 4, (deed, what) -> what < 2 ? x.places(deed, what) : x.needs(deed, what - 2))
+                + table(1, 7, (row, what) -> x.all(what)) + table(1, 16, (row, some) -> x.stuck(some));
     }
 
     /** Its length and the faults of how it begins. */

@@ -266,8 +266,15 @@ public final class EdgeActTest {
         free("P12 TURNS of the lower one, by HIDDEN", "p00;p10;t1;j01;h0", 2);
         free("P12 a JOIN of the lower one, by HIDDEN", "p00;p10;p20;j01;j12;h0", 4);
         free("P12 HIDDEN", "p00;p10;j01;h0", 3);
-        Edge.answers("P12 the others keep their order", Edge.made("a", "p00;p11;p22;p33"),
-                x -> x.undoes(1) * 1000 + x.deed(0, 1) * 100 + x.deed(1, 1) * 10 + x.deed(2, 1), 3023);
+        int[][] others = {{0, 1, 8}, {2, 1, 4}, {0, 2, 6}, {1, 2, 0}, {3, 1, 2}};
+        for (int deed = 0; deed < others.length; deed++) {
+            for (int what = 0; what < 3; what++) {
+                int d = deed;
+                int w = what;
+                Edge.answers("P12 the others keep their order", Edge.then(Edge.made("a", "p09;p18;c14;p26;t2;j12"),
+                        x -> x.undoes(0)), x -> x.deed(d, w), others[deed][what]);
+            }
+        }
         Edge.answers("P12 the first of all", Edge.made("a", "p00;p11;p22"), x -> x.undoes(0) * 100 + x.deed(0, 1), 201);
         Edge.answers("P12 the only one", Edge.made("a", "p00"), x -> x.undoes(0) + x.count(1), 0);
     }
@@ -634,32 +641,39 @@ public final class EdgeActTest {
     private static void logSixty() {
         for (int entries : new int[] {59, 60, 61, 119, 120, 121, 150}) {
             UndoTrade x = Due.shop("a");
-            for (int i = 0; i < entries; i++) {
-                if (x.count(1) == 4) {
-                    x.sell();
-                } else {
-                    x.make(0, x.count(1), 0);
-                }
+            for (int entry = 0; entry < entries; entry++) {
+                logOfSeven(x, entry);
             }
             int long60 = Math.min(60, entries);
             Due.due("P19 how long", x.count(10), long60);
             for (int i = 0; i < long60; i++) {
-                int number = (entries - 1 - i) % 5;
-                Due.due("P19 what", x.log(i, 0), number == 4 ? 10 : 0);
-                Due.due("P19 how many DEEDS", x.log(i, 1), number == 4 ? 0 : number + 1);
+                int number = (entries - 1 - i) % 7;
+                Due.due("P19 what", x.log(i, 0), number == 6 ? 10 : 0);
+                Due.due("P19 how many DEEDS", x.log(i, 1), number == 6 ? 0 : number + 1);
             }
             Due.due("P19 one beyond", x.log(long60, 0), -1);
         }
         UndoTrade x = Due.shop("a");
-        for (int i = 0; i < 80; i++) {
-            x.make(0, 0, 0);
-            x.undoes(0);
+        for (int entry = 0; entry < 100; entry++) {
+            logOfSeven(x, entry);
         }
-        for (int i = 0; i < 40; i++) {
+        for (int entries = 100; entries > 60; entries--) {
             Due.due("P19 UNDONE, what was lost is there", x.count(10), 60);
-            Due.due("P19 UNDONE, the oldest", x.log(59, 0), i % 2 == 0 ? 0 : 5);
-            Due.due("P19 UNDONE, the latest", x.log(0, 0), i % 2 == 0 ? 5 : 0);
+            for (int i = 0; i < 60; i += 59) {
+                int number = (entries - 1 - i) % 7;
+                Due.due("P19 UNDONE, what", x.log(i, 0), number == 6 ? 10 : 0);
+                Due.due("P19 UNDONE, how many DEEDS", x.log(i, 1), number == 6 ? 0 : number + 1);
+            }
             x.undo();
+        }
+    }
+
+    /** Six parts are put, then the piece is sold: seven entries, which do not go round with sixty. */
+    private static void logOfSeven(UndoTrade x, int entry) {
+        if (entry % 7 == 6) {
+            x.sell();
+        } else {
+            x.make(0, entry % 7, 0);
         }
     }
 

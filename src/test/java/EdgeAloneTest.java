@@ -353,16 +353,25 @@ public final class EdgeAloneTest {
         Edge.answers("P44 the TAPE is as it is", Edge.then(image, x -> Due.tape(x, "abc")), x -> x.back() * 0 + x.count(4), 3);
         Edge.answers("P44 MAKINGS are as they are", Edge.then(image, x -> Due.tell(x, 2, "p00")),
                 x -> x.back() * 0 + x.count(3), 2);
-        Edge.answers("P44 the LOG of more than 60", Edge.then(Edge.shop("a"), x -> {
+        Edge.Script full = Edge.then(Edge.shop("a"), x -> {
             for (int i = 0; i < 35; i++) {
                 x.make(0, 0, 0);
                 x.undoes(0);
             }
+        });
+        Edge.Script back = Edge.then(full, x -> {
             x.image();
-            x.make(0, 0, 0);
+            for (int i = 0; i < 6; i++) {
+                x.make(0, i, 0);
+            }
             x.sell();
-            x.make(0, 0, 0);
-        }), x -> x.back() * 10000 + x.count(10) * 100 + x.log(0, 0) * 10 + x.log(59, 0), 706050);
+            x.back();
+        });
+        for (int i = 0; i < 60; i++) {
+            int at = i;
+            Edge.answers("P44 the LOG of more than 60, what", back, x -> x.log(at, 0), i % 2 == 0 ? 5 : 0);
+            Edge.answers("P44 the LOG of more than 60, DEEDS", back, x -> x.log(at, 1), i % 2);
+        }
     }
 
     // ---- promise 44 ----

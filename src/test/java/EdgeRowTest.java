@@ -153,6 +153,8 @@ public final class EdgeRowTest {
         alike("P23 the last COAT is the same", "p00;c01;c03", "p00;c02;c03", 0);
         alike("P23 the last two COATS are the same", "p00;c01;c02;c03", "p00;c02;c03", 0);
         alike("P23 more of the same COATS", "p00;c09;c09", "p00;c09;c09;c09", 0);
+        alike("P23 COATS of two PARTS in another order", "p00;p10;c01;c12", "p00;p10;c12;c01", 1);
+        alike("P23 COATS of the other PART", "p00;p10;c01;c12", "p00;p10;c02;c11", 0);
         alike("P23 JOINS onto others", "p00;p10;p20;j01", "p00;p10;p20;j02", 0);
         alike("P23 JOINS the other way", "p00;p10;j01", "p00;p10;j10", 0);
         alike("P23 a JOIN onto the PART 0 and none", "p00;p10;j10", "p00;p10", 0);
@@ -244,6 +246,19 @@ public final class EdgeRowTest {
         costs("P24 the first CLAUSE without a CONDITION", "y:1=2?5;y:6;y:1=1?7", 6);
         costs("P24 0 without", "y:1=2?5;y:1=3?6", 0);
         costs("P24 < >, not =", "y:1<1?5;y:1>1?6;y:1=1?7", 7);
+        costs("P24 &: both", "y:1=1&1=1?5;y:6", 5);
+        costs("P24 &: the first alone", "y:1=1&1=2?5;y:6", 6);
+        costs("P24 &: the second alone", "y:1=2&1=1?5;y:6", 6);
+        costs("P24 |: the first alone", "y:1=1|1=2?5;y:6", 5);
+        costs("P24 |: the second alone", "y:1=2|1=1?5;y:6", 5);
+        costs("P24 |: neither", "y:1=2|1=3?5;y:6", 6);
+        costs("P24 three UNITS, the last does not hold", "y:1=1&1=1&1=2?5;y:6", 6);
+        costs("P24 three TRUTHS, the last holds", "y:1=2|1=2|1=1?5;y:6", 5);
+        costs("P24 ! <", "y:!1<2?5;y:6", 6);
+        costs("P24 ! <", "y:!2<2?5;y:6", 5);
+        costs("P24 ! >", "y:!2>1?5;y:6", 6);
+        costs("P24 ! >", "y:!2>2?5;y:6", 5);
+        costs("P24 < & >", "y:1<2&2>1?5;y:6", 5);
         costs("P24 & ahead of |", "y:1=1|1=1&1=2?5;y:6", 5);
         costs("P24 !, of the next UNIT alone", "y:!1=1|1=1?5;y:6", 5);
         costs("P24 !, of ( )", "y:!(1=1|1=1)?5;y:6", 6);

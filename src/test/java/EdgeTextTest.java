@@ -226,7 +226,8 @@ public final class EdgeTextTest {
                 "sm1m1;a", 3, "ak1;ak1;ar0;ar0", -1);
         faults("P4 a letter of another CLAUSE", 0, "sk1;a", 1, "sr1;a", 1, "am1", 1, "ax1", 1, "p00", 0, "y:1", 0, "k1", 0,
                 "S;a", 0, "aK1", 1);
-        faults("P4 a letter without its number", 0, "ak", 2, "ar", 2, "akr1", 2, "ak;a", 2, "sm;a", 2, "a;sm", 4, "ak1r", 4);
+        faults("P4 a letter without its number", 0, "ak", 2, "ar", 2, "akr1", 2, "ak;a", 2, "sm;a", 2, "a;sm", 4, "ak1r", 4,
+                "a;ak", 4, "a;ar", 4, "a;ak1r", 6);
     }
 
     private static void workshopNumbers() {

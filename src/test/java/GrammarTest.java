@@ -31,6 +31,9 @@ public final class GrammarTest {
             if (text.length() > 240) {
                 continue;
             }
+            if (i % 30 == 0) {
+                x = new UndoTrade();
+            }
             Due.tape(x, text);
             int fault = x.fault(sort);
             sound += fault == -1 ? 1 : 0;
