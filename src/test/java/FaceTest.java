@@ -107,9 +107,9 @@ public final class FaceTest {
     private static void anyArguments() throws Exception {
         Random random = new Random(3);
         String[] texts = {"ak9;sm12;ar0k31;a", "y:w=1&!(x>2|i<n)?b*t-9;y:x/n", "p00;p10;p20;t0;c15;j01;j12;h0;t2", "y:x", "a"};
-        for (int run = 0; run < 400; run++) {
+        for (int run = 0; run < 700; run++) {
             UndoTrade x = new UndoTrade();
-            for (int i = 0; i < 512; i++) {
+            for (int i = 0; i < 300; i++) {
                 if (random.nextInt(12) == 0) {
                     int which = random.nextInt(texts.length);
                     Due.tell(x, random.nextInt(10) == 0 ? which : which == 4 ? 0 : which == 3 ? 1 : which, texts[which]);
