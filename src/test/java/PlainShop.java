@@ -30,7 +30,7 @@ final class PlainShop {
         }
     }
 
-    private final int most;
+    private int most;
     private Snap now = new Snap();
     private final List<Snap> past = new ArrayList<>();
     private Snap image;
@@ -40,10 +40,15 @@ final class PlainShop {
     private final List<int[][]> makings = new ArrayList<>();
     private final List<int[]> seen = new ArrayList<>();
 
-    PlainShop(int most, int[] known, boolean[] room) {
+    /** Another workshop: laws, which holds, makings and haste stay. */
+    void open(int most, int[] known, boolean[] room) {
         this.most = most;
+        now = new Snap();
         now.known = known.clone();
         now.room = room.clone();
+        past.clear();
+        image = null;
+        seen.clear();
     }
 
     void addLaw(Law law) {
@@ -104,7 +109,7 @@ final class PlainShop {
     }
 
     /** Whether b must come behind a, both of the piece, a ahead of b in the list. */
-    private static boolean needs(int[] b, int[] a) {
+    static boolean needs(int[] b, int[] a) {
         boolean put = a[0] == 0 && (a[1] == b[1] || b[0] == 3 && a[1] == b[2]);
         boolean turns = a[0] == 1 && a[1] == b[1] && (b[0] == 1 || b[0] == 3 || b[0] == 4);
         boolean coats = a[0] == 2 && (a[1] == b[1] && (b[0] == 2 || b[0] == 4) || b[0] == 3 && a[1] == b[2]);

@@ -14,7 +14,7 @@ public final class PlainShopTest {
         for (run = 1; run <= 4000 && !Due.anyWrong(); run++) {
             open();
             compared = 0;
-            int enough = 100 + RANDOM.nextInt(280);
+            int enough = 100 + RANDOM.nextInt(250);
             while (compared < enough && !Due.anyWrong()) {
                 if (RANDOM.nextInt(3) == 0) {
                     act();
@@ -28,6 +28,17 @@ public final class PlainShopTest {
 
     private static void open() {
         x = new UndoTrade();
+        plain = new PlainShop();
+        workshop();
+        for (int i = 0; i < 4; i++) {
+            RandomLaw law = new RandomLaw(RANDOM);
+            due("law " + law.text, Due.tell(x, 1, law.text), i);
+            plain.addLaw(law);
+            making();
+        }
+    }
+
+    private static void workshop() {
         most = 1 + RANDOM.nextInt(7);
         int apprentices = 1 + RANDOM.nextInt(4);
         int[] known = new int[apprentices];
@@ -39,13 +50,7 @@ public final class PlainShopTest {
             text.append(";ak").append(known[a]).append('r').append(room[a] ? 1 : 0);
         }
         due("workshop " + text, Due.tell(x, 0, text.toString()), apprentices);
-        plain = new PlainShop(most, known, room);
-        for (int i = 0; i < 4; i++) {
-            RandomLaw law = new RandomLaw(RANDOM);
-            due("law " + law.text, Due.tell(x, 1, law.text), i);
-            plain.addLaw(law);
-            making();
-        }
+        plain.open(most, known, room);
     }
 
     private static void making() {
@@ -95,7 +100,9 @@ public final class PlainShopTest {
             }
             case 13 -> due("perform " + a, x.perform(a), plain.perform(a));
             case 14 -> {
-                if (RANDOM.nextInt(3) == 0) {
+                if (RANDOM.nextInt(12) == 0) {
+                    workshop();
+                } else if (RANDOM.nextInt(3) == 0) {
                     due("sell", x.sell(), plain.sell());
                 } else if (RANDOM.nextBoolean()) {
                     due("image", x.image(), plain.image());
