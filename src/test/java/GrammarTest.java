@@ -6,7 +6,7 @@ import java.util.Random;
 
 /**
  * Promise 4 over random texts: the document's grammar of laws and makings, followed sign by sign with all that a text
- * can still become. (Of workshops TextTest has the cases: their numbers' faults are not where the grammar stops.)
+ * can still become. (Of workshops see WorkshopTextTest: their numbers' faults are not where the grammar stops.)
  */
 public final class GrammarTest {
     /** What is still to come: signs (a letter behind a quote), a digit that must follow at once (D) or names of rules. */
